@@ -4,7 +4,7 @@ import java.util.function.IntSupplier;
 /** Long runs of calls of all kinds and sizes: every answer must be that of the model. */
 public final class ModelTest {
     private static final Check CHECK = new Check("model");
-    private static final int RUNS_OF_EACH = 12;
+    private static final int RUNS_OF_EACH = 40;
     private static final int CALLS = 505;
 
     private final Random random;
@@ -14,7 +14,8 @@ public final class ModelTest {
     private final int[] places;
     private final int shape;
     private final int looseness;
-    private int turn;
+    private final boolean rewinds;
+    private int calls;
 
     private ModelTest(int kind, int size, int run) {
         random = new Random(1000003L * kind + 1009L * size + run);
@@ -23,11 +24,12 @@ public final class ModelTest {
         model = new Model(kind, size, seed);
         name = "kind " + kind + ", S " + size + ", run " + run;
         places = new int[1 + random.nextInt(run % 2 == 0 ? 3 : 12)];
-        int spread = random.nextInt(4);
+        int spread = random.nextInt(5);
         for (int i = 0; i < places.length; i++) {
-            places[i] = somePlace(spread, i);
+            places[i] = somePlace(spread, i, size);
         }
         shape = run % 4;
+        rewinds = run % 3 == 2;
         looseness = random.nextInt(3);
     }
 
@@ -42,19 +44,26 @@ public final class ModelTest {
         CHECK.end();
     }
 
-    private int somePlace(int spread, int i) {
+    private int somePlace(int spread, int i, int size) {
         switch (spread) {
             case 0: return 64 + 4 * i;
             case 1: return random.nextInt();
             case 2: return random.nextInt(64) << random.nextInt(27);
+            case 3: return i << Math.min(Math.max(size, 2), 9);
             default: return (i % 2 == 0 ? Integer.MIN_VALUE : Integer.MAX_VALUE) + (i % 2 == 0 ? i : -i);
         }
     }
 
     private void play() {
-        for (turn = 0; turn < CALLS; turn++) {
+        if (rewinds) {
+            same("mark()", x::mark, model::mark);
+        }
+        while (calls < CALLS) {
             int place = places[random.nextInt(places.length)];
             int choice = random.nextInt(100);
+            if (rewinds && random.nextInt(3) > 0) {
+                same("repair(0)", () -> x.repair(0), () -> model.repair(0));
+            }
             if (choice < 50) {
                 boolean taken = outcome(place);
                 same("update(" + place + ", " + taken + ")",
@@ -110,14 +119,15 @@ public final class ModelTest {
             case 0: return (history & 7) != 7;
             case 1: return Integer.bitCount(history & 0x29) % 2 == 0;
             case 2: return (place & 4) == 0 ? (history & 3) != 0 : (history & 0x80) == 0;
-            default: return turn / 40 % 2 == 0 ? place % 3 != 0 : (history & 0x8000) != 0;
+            default: return calls / 40 % 2 == 0 ? place % 3 != 0 : (history & 0x8000) != 0;
         }
     }
 
     private void same(String call, IntSupplier got, IntSupplier want) {
+        calls++;
         String due = told(want);
         String answer = told(got);
-        CHECK.due(name + ", call " + turn + ": " + call + " " + answer + ", due is " + due, answer.equals(due), true);
+        CHECK.due(name + ", call " + calls + ": " + call + " " + answer + ", due is " + due, answer.equals(due), true);
     }
 
     private static String told(IntSupplier call) {

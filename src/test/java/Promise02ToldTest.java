@@ -11,6 +11,7 @@ public final class Promise02ToldTest {
     }
 
     private static void changesNothing() {
+        CHECK.sentence("Nothing changes, but when it is early, as told.");
         for (int kind = 0; kind < 10; kind++) {
             PredictorKinds x = new PredictorKinds(kind, 3, 65536);
             Check.updates(x, 5, "1101");
@@ -28,6 +29,7 @@ public final class Promise02ToldTest {
 
     /** S is 3: places 8 and 1 have the plain row 1, -1 and 0 the row 0. */
     private static void goesByTheRow() {
+        CHECK.sentence("What it says of a branch at a place.");
         PredictorKinds last = new PredictorKinds(1, 3, 0);
         last.update(8, true);
         CHECK.due("last, told(8)", last.told(8), true);
@@ -50,6 +52,7 @@ public final class Promise02ToldTest {
     }
 
     private static void putsIntoTheHistoryWhenEarly() {
+        CHECK.sentence("but when it is early, as told.");
         PredictorKinds x = new PredictorKinds(1, 3, 0);
         Check.updates(x, 5, "1");
         x.early(true);
@@ -62,6 +65,7 @@ public final class Promise02ToldTest {
     }
 
     private static void sixtyFourWait() {
+        CHECK.sentence("(64 at most: then nothing of that)");
         PredictorKinds x = new PredictorKinds(1, 3, 0);
         x.early(true);
         for (int i = 0; i < 63; i++) {

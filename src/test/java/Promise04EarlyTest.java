@@ -6,11 +6,14 @@ public final class Promise04EarlyTest {
         answersWhatItWas();
         losesWhatWaits(true);
         losesWhatWaits(false);
+        noneOrAll(true);
+        noneOrAll(false);
         offAgain();
         CHECK.end();
     }
 
     private static void answersWhatItWas() {
+        CHECK.sentence("Whether histories are told early from now on: what it was.");
         PredictorKinds x = new PredictorKinds(2, 3, 0);
         CHECK.due("at first", x.early(true), false);
         CHECK.due("on", x.early(true), true);
@@ -20,6 +23,7 @@ public final class Promise04EarlyTest {
     }
 
     private static void losesWhatWaits(boolean on) {
+        CHECK.sentence("What waits is lost.");
         PredictorKinds x = new PredictorKinds(0, 3, 0);
         x.early(true);
         x.told(4);
@@ -33,7 +37,26 @@ public final class Promise04EarlyTest {
         CHECK.due("corrected", x.count(5), 0);
     }
 
+    /** None waits, and all that can. */
+    private static void noneOrAll(boolean on) {
+        CHECK.sentence("What waits is lost.");
+        PredictorKinds x = new PredictorKinds(0, 3, 0);
+        x.early(true);
+        x.early(on);
+        CHECK.due("waiting", x.count(3), 0);
+        x.early(true);
+        for (int i = 0; i < 70; i++) {
+            x.told(i);
+        }
+        CHECK.due("waiting", x.count(3), 64);
+        x.early(on);
+        CHECK.due("waiting", x.count(3), 0);
+        x.told(5);
+        CHECK.due("waiting", x.count(3), on ? 1 : 0);
+    }
+
     private static void offAgain() {
+        CHECK.sentence("Whether histories are told early from now on");
         PredictorKinds x = new PredictorKinds(0, 3, 0);
         x.early(true);
         x.early(false);

@@ -3,6 +3,7 @@ public final class Promise05HistoryTest {
     private static final Check CHECK = new Check("promise 5");
 
     public static void main(String[] args) {
+        CHECK.sentence("The history.");
         for (int kind = 0; kind < 10; kind++) {
             PredictorKinds x = new PredictorKinds(kind, 2, 5);
             CHECK.due("at first", x.history(), 0);

@@ -6,6 +6,8 @@ public final class Promise07RepairTest {
         ordinary();
         noSuchMark();
         losesWhatWaits();
+        allMarks();
+        allThatWaits();
         CHECK.end();
     }
 
@@ -20,6 +22,8 @@ public final class Promise07RepairTest {
     }
 
     private static void ordinary() {
+        CHECK.sentence("The history is that of a mark again; marks behind it are gone, "
+                + "what waits is lost: the history before.");
         PredictorKinds x = threeMarks();
         CHECK.due("repair(1)", x.repair(1), 14);
         CHECK.due("history", x.history(), 3);
@@ -35,6 +39,7 @@ public final class Promise07RepairTest {
     }
 
     private static void noSuchMark() {
+        CHECK.sentence("IndexOutOfBoundsException, when there is no such mark.");
         PredictorKinds none = new PredictorKinds(2, 3, 0);
         CHECK.throwing("repair(0) without marks", IndexOutOfBoundsException.class, () -> none.repair(0));
         PredictorKinds x = threeMarks();
@@ -48,7 +53,45 @@ public final class Promise07RepairTest {
         }
     }
 
+    /** Each of the 32 marks, from the last one down; the one behind is gone then, and only that. */
+    private static void allMarks() {
+        CHECK.sentence("marks behind it are gone");
+        PredictorKinds x = new PredictorKinds(2, 3, 0);
+        for (int i = 0; i < 32; i++) {
+            x.mark();
+            x.update(4, i % 2 == 0);
+        }
+        CHECK.throwing("repair(32)", IndexOutOfBoundsException.class, () -> x.repair(32));
+        for (int i = 31; i >= 0; i--) {
+            CHECK.due("repair(" + i + ")", x.repair(i), inTurn(i + 1));
+            CHECK.due("history()", x.history(), inTurn(i));
+            CHECK.due("count(4)", x.count(4), i + 1);
+            int gone = i + 1;
+            CHECK.throwing("repair(" + gone + ")", IndexOutOfBoundsException.class, () -> x.repair(gone));
+        }
+    }
+
+    /** The history of so many outcomes in turn, taken at first. */
+    private static int inTurn(int outcomes) {
+        return (int) (0xaaaaaaaaL >>> (32 - outcomes));
+    }
+
+    private static void allThatWaits() {
+        CHECK.sentence("what waits is lost");
+        PredictorKinds x = new PredictorKinds(0, 3, 0);
+        x.mark();
+        x.early(true);
+        for (int i = 0; i < 64; i++) {
+            x.told(i);
+        }
+        CHECK.due("repair(0)", x.repair(0), -1);
+        CHECK.due("count(3)", x.count(3), 0);
+        CHECK.due("repair(0), none waits", x.repair(0), 0);
+        CHECK.due("count(5)", x.count(5), 0);
+    }
+
     private static void losesWhatWaits() {
+        CHECK.sentence("what waits is lost");
         PredictorKinds x = new PredictorKinds(0, 3, 0);
         x.early(true);
         x.mark();

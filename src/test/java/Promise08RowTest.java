@@ -10,11 +10,13 @@ public final class Promise08RowTest {
         tagged();
         sums();
         loops();
+        byTheHistoryNow();
         changesNothing();
         CHECK.end();
     }
 
     private static void bits() {
+        CHECK.sentence("of kinds 0 and 9 0 or 1; 1, 2, 3 its bit or counter");
         PredictorKinds always = new PredictorKinds(0, 3, 0);
         Check.updates(always, 1, "000");
         CHECK.due("always", always.row(1), 1);
@@ -29,6 +31,7 @@ public final class Promise08RowTest {
     }
 
     private static void counters() {
+        CHECK.sentence("1, 2, 3 its bit or counter");
         PredictorKinds plain = new PredictorKinds(2, 3, 0);
         int[] due = {2, 3, 3, 2, 1, 0, 0, 1};
         String outcomes = "11100001";
@@ -45,6 +48,7 @@ public final class Promise08RowTest {
 
     /** S is 2: after 100 the own history is 100 without its highest bit, which is 00 again. */
     private static void own() {
+        CHECK.sentence("4 the counter");
         PredictorKinds x = new PredictorKinds(4, 2, 0);
         Check.updates(x, 0, "1");
         CHECK.due("counter 1", x.row(0), 1);
@@ -56,6 +60,7 @@ public final class Promise08RowTest {
     }
 
     private static void chooser() {
+        CHECK.sentence("5 the chooser");
         PredictorKinds x = new PredictorKinds(5, 2, 0);
         CHECK.due("at first", x.row(0), 1);
         Check.updates(x, 0, "10");
@@ -64,6 +69,7 @@ public final class Promise08RowTest {
     }
 
     private static void tagged() {
+        CHECK.sentence("6 the sum of the table that answers, or the counter when none hits");
         PredictorKinds x = new PredictorKinds(6, 4, 0);
         x.mark();
         CHECK.due("the counter", x.row(0), 1);
@@ -79,6 +85,7 @@ public final class Promise08RowTest {
 
     /** S is 3, three times taken with the history 0: weights 3 and -3. */
     private static void sums() {
+        CHECK.sentence("7 the sum");
         PredictorKinds x = new PredictorKinds(7, 3, 0);
         x.mark();
         for (int i = 0; i < 3; i++) {
@@ -93,6 +100,7 @@ public final class Promise08RowTest {
     }
 
     private static void loops() {
+        CHECK.sentence("8 the trust with its tag, else -1.");
         PredictorKinds x = new PredictorKinds(8, 3, 0);
         CHECK.due("no tag", x.row(8), -1);
         Check.updates(x, 8, "1");
@@ -109,7 +117,21 @@ public final class Promise08RowTest {
         CHECK.due("above the length", x.row(8), 0);
     }
 
+    /** S is 3: row 0 of kind 3 has learnt; what is told early turns the row of a place at once. */
+    private static void byTheHistoryNow() {
+        CHECK.sentence("What a place's row says in number");
+        PredictorKinds x = new PredictorKinds(3, 3, 0);
+        x.update(0, true);
+        x.early(true);
+        CHECK.due("history 1", x.row(1), 2);
+        x.told(3);
+        CHECK.due("history 2", x.row(1), 1);
+        CHECK.due("history 2", x.row(2), 2);
+        CHECK.due("history 2", x.row(Integer.MIN_VALUE + 2), 2);
+    }
+
     private static void changesNothing() {
+        CHECK.sentence("What a place's row says in number");
         for (int kind = 0; kind < 10; kind++) {
             PredictorKinds x = new PredictorKinds(kind, 3, 7);
             x.early(true);

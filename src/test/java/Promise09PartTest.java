@@ -11,6 +11,7 @@ public final class Promise09PartTest {
     }
 
     private static void kindsOfOnePart() {
+        CHECK.sentence("else 0.");
         for (int kind : new int[] {0, 1, 2, 3, 4, 7, 9}) {
             PredictorKinds x = new PredictorKinds(kind, 2, 65536);
             CHECK.due("part of kind " + kind, x.part(0), 0);
@@ -22,6 +23,7 @@ public final class Promise09PartTest {
     }
 
     private static void chooser() {
+        CHECK.sentence("of kind 5 2 or 3");
         PredictorKinds x = new PredictorKinds(5, 2, 0);
         CHECK.due("at first", x.part(0), 2);
         Check.updates(x, 0, "10");
@@ -33,6 +35,7 @@ public final class Promise09PartTest {
 
     /** S is 4: with the history 0 a place's rows are place ^ 1, ^ 2, ^ 3, its tags place / 4, ^ 7, ^ 14. */
     private static void tagged() {
+        CHECK.sentence("of kind 6 the table, or -1");
         PredictorKinds x = new PredictorKinds(6, 4, 0);
         x.mark();
         CHECK.due("none hits", x.part(20), -1);
@@ -53,6 +56,7 @@ public final class Promise09PartTest {
     }
 
     private static void loops() {
+        CHECK.sentence("of kind 8 1 for the loop, 0 for kind 2");
         PredictorKinds x = new PredictorKinds(8, 3, 0);
         Check.updates(x, 8, "0" + "10" + "10" + "10");
         CHECK.due("trust 2", x.part(8), 0);
